@@ -172,6 +172,12 @@ public final class PromiseTest {
         x.people(2);
         x.people(3);
         due("those who come again are as at first", x.told(12), 170);
+        x.people(8);
+        x.pair(6, 7, 2);
+        x.blink(7, 2, 9);
+        x.people(8);
+        due("the last pair too", x.pair(7, 6, 0), 0);
+        due("the last phase too", x.blink(7, 2, 0), 0);
     }
 
     // Promise 3
@@ -286,11 +292,18 @@ public final class PromiseTest {
         OpenEyes all = with("hhhhhhhh", "hshhhhhh", "tttttttt");
         due("all are bad", all.single(0), 2);
         due("eight are bad", all.single(1), 8);
+        due("person 0 counts", with("sos", "oos").single(0), 1);
+        OpenEyes again = with("oooo", "oooo");
+        again.people(4);
+        write(again, "ssst");
+        again.shot();
+        due("nothing is left of shots that went", again.single(1), 4);
     }
 
     // Promise 10
     private static void cover() {
         due("one is enough", with("sso", "ooo", "ooo").cover(), 2);
+        due("the first is enough", with("ooo", "ooo").cover(), 1);
         due("two are needed", with("oso", "soo", "oos", "sso").cover(), 3);
         due("least as bits", with("oss", "soo", "oso", "sos").cover(), 3);
         due("not the first but the fewest", with("osss", "soss", "ssos", "ssso", "ooos").cover(), 24);
@@ -307,6 +320,7 @@ public final class PromiseTest {
         OpenEyes x = with("osth", "oosh", "oooo");
         due("who", x.spoils(0), 2);
         due("in how many", x.spoils(1), 2);
+        due("person 0", with("sos", "sso").spoils(0), 0);
         OpenEyes y = with("oooo", "oooo");
         due("nobody", y.spoils(0), NONE);
         due("in none", y.spoils(1), 0);
@@ -416,6 +430,9 @@ public final class PromiseTest {
         due("never shut", x.open(0), 8);
         x.blink(3, 1, 30);
         due("ever shut", x.open(10), 7);
+        x.blink(3, 1, 1);
+        x.blink(3, 0, 1);
+        due("ever shut by a period of one", x.open(10), 7);
         for (int t : new int[] {-2, 1000, LOW, HIGH}) due("flash " + t, x.flash(t), OUTSIDE);
         due("flash 10", x.flash(10), -1);
         int[] behind = {7, 7, 0, 0, 7};
@@ -563,6 +580,7 @@ public final class PromiseTest {
         due("first", x.shoot(1, 3, 0), 0);
         due("how many", x.shoot(1, 3, 1), 2);
         due("of two", x.shoot(1, 2, 1), 1);
+        due("a shoot of one", x.shoot(1, 1, 0), 0);
         x.bad(1, 0);
         due("how many then", x.shoot(1, 3, 1), 3);
         x.bad(0, 3);
@@ -647,6 +665,9 @@ public final class PromiseTest {
         judged("good", x, "012", NONE, NONE);
         x.tall(1, 180);
         judged("hidden by one as tall", x, "203", 0, 1);
+        x.tall(0, 190);
+        judged("hidden by person 0", x, "021", 1, 1);
+        x.tall(0, 170);
         judged("the last one is hidden", x, "213", 2, 1);
         x.tall(1, 179);
         judged("a little lower", x, "203", NONE, NONE);
@@ -748,6 +769,33 @@ public final class PromiseTest {
     }
 
     // Promises 29 and 30
+    private static void fullImage() {
+        OpenEyes x = with("osssssss", "soosssss", "ssssosss", "sssssoss", "ssssssos", "ssssssso", "sssossss",
+            "tttttttt", "hhhhhhhh", "sthsthst");
+        for (int k = 0; k < 8; k++) {
+            x.blink(k, 2, 10 + k);
+            x.bad(k, k % 5);
+            x.tall(k, 200 + k);
+        }
+        x.pair(6, 7, 1);
+        x.image(0);
+        x.people(8);
+        for (int s = 0; s < 10; s++) {
+            write(x, "oooooooo");
+            x.shot();
+        }
+        x.restore(0);
+        due("all shots again", x.told(2), 10);
+        due("their cover", x.cover(), 127);
+        for (int k = 0; k < 8; k++) {
+            due("its last looks", x.look(9, k), "sthsthst".charAt(k));
+            due("its phases", x.blink(k, 2, 0), 10 + k);
+            due("its quarters", x.told(20 + k), k % 5);
+            due("its talls", x.told(10 + k), 200 + k);
+        }
+        due("its last pair", x.pair(7, 6, 0), 1);
+    }
+
     private static void imageAndRestore() {
         OpenEyes x = new OpenEyes();
         for (int n : new int[] {-1, 2, LOW, HIGH}) {
@@ -805,6 +853,7 @@ public final class PromiseTest {
         x.people(2);
         x.restore(1);
         due("the later one", x.told(1), 5);
+        fullImage();
     }
 
     // Promise 31
