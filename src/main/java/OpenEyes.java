@@ -104,7 +104,7 @@ public final class OpenEyes {
     }
 
     public int heads(int i) {
-        if (i != -1 && !now.has(i)) return UNKNOWN;
+        if (i != -1 && !now.has(i)) return NONE;
         int cuts = headWork.solve(now.shots, now.people);
         if (cuts == NONE || i == -1) return cuts;
         return headWork.shotOf(i);
@@ -207,8 +207,8 @@ public final class OpenEyes {
     }
 
     public int placed(int i) {
-        if (i != -1 && !now.has(i)) return UNKNOWN;
         if (now.people > now.stair.places()) return STATE;
+        if (i != -1 && !now.has(i)) return NONE;
         placeWork.solve(now.stair, now.people);
         return i == -1 ? placeWork.count : placeWork.firstOf(i);
     }

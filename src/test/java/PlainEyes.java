@@ -185,7 +185,7 @@ final class PlainEyes {
     }
 
     int heads(int i) {
-        if (i < -1 || i >= n()) return UNKNOWN;
+        if (i < -1 || i >= n()) return NONE;
         tryAllHeads(false);
         if (bestHeads == null) return NONE;
         return i == -1 ? bestCost : bestHeads[i];
@@ -395,8 +395,8 @@ final class PlainEyes {
     }
 
     int placed(int i) {
-        if (i < -1 || i >= n()) return UNKNOWN;
         if (n() > places()) return STATE;
+        if (i < -1 || i >= n()) return NONE;
         standings = 0;
         tryStandings(new int[n()], 0);
         if (i == -1) return standings;

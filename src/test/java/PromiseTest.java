@@ -363,8 +363,18 @@ public final class PromiseTest {
         headsAre("all hold hands", x, NONE, NONE, NONE);
         x.hands(1);
         headsAre("hands of 0 and 1", x, 1, 0, 0, 1, 1);
-        for (int i : new int[] {-2, 4, LOW, HIGH}) due("heads " + i, x.heads(i), UNKNOWN);
-        due("unknown before none", new OpenEyes().heads(4), UNKNOWN);
+        int[] nobody = {-2, 4, 7, 8, -957022845, LOW, HIGH};
+        for (int i : nobody) due("no person " + i, x.heads(i), NONE);
+        for (int i : nobody) due("no person, no shot " + i, new OpenEyes().heads(i), NONE);
+        headsAre("still those", x, 1, 0, 0, 1, 1);
+        OpenEyes y = with("oooooooo");
+        due("one of eight", y.heads(7), 0);
+        y.people(3);
+        write(y, "ooo");
+        y.shot();
+        due("the last of three", y.heads(2), 0);
+        due("no longer a person", y.heads(3), NONE);
+        due("nor the eighth", y.heads(7), NONE);
     }
 
     // Promise 14
@@ -737,7 +747,13 @@ public final class PromiseTest {
         x.stair(1, 1);
         due("more people than places", x.placed(-1), STATE);
         due("for one of them too", x.placed(0), STATE);
-        for (int i : new int[] {-2, 2, LOW, HIGH}) due("placed " + i, x.placed(i), UNKNOWN);
+        int[] nobody = {-2, 2, 7, 8, -673195092, LOW, HIGH};
+        for (int i : nobody) due("state, whatever i is: " + i, x.placed(i), STATE);
+        x.stair(1, 2);
+        due("good ones", x.placed(-1), 2);
+        for (int i : nobody) due("no person " + i, x.placed(i), NONE);
+        x.pair(0, 1, 1);
+        for (int i : nobody) due("no person, none good " + i, x.placed(i), NONE);
         OpenEyes y = stairOf(1, 1, 1);
         due("one on one", y.placed(-1), 1);
         due("its place", y.placed(0), 0);
@@ -906,7 +922,7 @@ public final class PromiseTest {
         due("unknown before outside: bad", x.bad(7, 777), UNKNOWN);
         due("unknown before outside: tall", x.tall(7, 777), UNKNOWN);
         due("unknown before outside: pair", x.pair(1, 1, 777), UNKNOWN);
-        due("unknown before state: placed", x.placed(4), UNKNOWN);
+        due("state, though no such person: placed", x.placed(4), STATE);
         due("outside before no: judge", x.judge(2), OUTSIDE);
         due("outside before state: restore", x.restore(2), OUTSIDE);
     }
