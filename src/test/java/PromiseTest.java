@@ -3,48 +3,19 @@ import java.util.Arrays;
 import java.util.TreeSet;
 
 /** Each promise of the document: ordinary inputs, edges that it names, wrong inputs. */
-public final class PromiseTest {
-    private static final int UNKNOWN = -1, OUTSIDE = -2, STATE = -3, FULL = -4, NO = -5, NONE = -6;
-    private static final long GONE_OUTSIDE = -1000000000000000002L;
-    private static final int LOW = Integer.MIN_VALUE, HIGH = Integer.MAX_VALUE;
+public final class PromiseTest extends Eyes {
     private static final Check check = new Check();
 
     private static void due(String what, long got, long want) {
         check.due(what, got, want);
     }
 
-    private static void write(OpenEyes x, String text) {
-        x.wipe();
-        for (int i = 0; i < text.length(); i++) x.say(text.charAt(i));
-    }
-
-    /** An object with as many people as the first shot has looks, and these shots. */
-    private static OpenEyes with(String... shots) {
-        OpenEyes x = new OpenEyes();
-        x.people(shots[0].length());
-        for (int s = 0; s < shots.length; s++) {
-            write(x, shots[s]);
-            due("taking " + shots[s], x.shot(), s);
-        }
-        return x;
-    }
-
-    private static OpenEyes stairOf(int people, int rows, int columns) {
-        OpenEyes x = new OpenEyes();
-        x.people(people);
-        x.stair(rows, columns);
-        return x;
-    }
-
     private static void headsAre(String name, OpenEyes x, int cuts, int... shots) {
-        due(name + " cuts", x.heads(-1), cuts);
-        for (int k = 0; k < shots.length; k++) due(name + " head " + k, x.heads(k), shots[k]);
+        headsAre(check, name, x, cuts, shots);
     }
 
     private static void judged(String name, OpenEyes x, String standing, int person, int what) {
-        write(x, standing);
-        due(name + " " + standing + " person", x.judge(0), person);
-        due(name + " " + standing + " what", x.judge(1), what);
+        judged(check, name, x, standing, person, what);
     }
 
     public static void main(String[] args) {
