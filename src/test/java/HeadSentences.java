@@ -6,7 +6,10 @@ final class HeadSentences extends Eyes {
         c.due("one bad, ahead", with("tooo", "ssso", "oost").single(0), 0);
         c.due("none bad", with("tooo", "osoo", "oooo").single(0), 2);
         c.due("person 7", with("ooooooos", "oooooooo").single(0), 1);
-        c.due("the tenth", with("s", "s", "s", "s", "s", "s", "s", "s", "s", "o").single(0), 9);
+        String many = "ssssssss";
+        OpenEyes x = with(many, many, many, many, many, many, many, many, many, "ttttttto");
+        c.due("the tenth of eight people", x.single(0), 9);
+        c.due("seven are bad in it", x.single(1), 7);
     }
 
     @Says(at = "2", words = "of these the one with fewest who are hidden;")
@@ -14,6 +17,7 @@ final class HeadSentences extends Eyes {
         c.due("shut beside hidden", with("hooo", "sooo").single(0), 1);
         c.due("turned away beside hidden", with("ohho", "ohto").single(0), 1);
         c.due("all hidden but one", with("hhhhhhhh", "hhhhhhhs").single(0), 1);
+        c.due("hidden in another one", with("osoooooo", "hooooooo", "oosooooo").single(0), 0);
         c.due("fewest bad come first", with("hhoo", "ssso").single(0), 0);
         c.due("even eight hidden below", with("ssssssss", "hhhhhhho").single(0), 1);
     }
@@ -57,6 +61,7 @@ final class HeadSentences extends Eyes {
         c.due("eight of ten", with("ssssssss", "tttttttt", "osssssss", "sossssss", "ssosssss", "sssossss", "ssssosss",
             "sssssoss", "ssssssos", "ssssssso").cover(), 1020);
         c.due("one person", with("s", "o").cover(), 2);
+        c.due("somebody is open in both", with("oos", "soo").cover(), 3);
         c.due("the tenth shot", with("so", "so", "so", "so", "so", "so", "so", "so", "so", "os").cover(), 513);
     }
 

@@ -109,6 +109,10 @@ final class ShotSentences extends Eyes {
             faults(c, x, 1, "012345670".substring(0, n) + "x", n);
         }
         OpenEyes x = new OpenEyes();
+        faults(c, x, 0, "ooooox", 4);
+        faults(c, x, 1, "01234x", 4);
+        faults(c, x, 1, "012340", 4);
+        x.wipe();
         for (int i = 0; i < 40; i++) x.say('o');
         c.due("of forty signs", x.fault(0), 4);
     }

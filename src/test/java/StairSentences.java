@@ -50,7 +50,9 @@ final class StairSentences extends Eyes {
     @Says(at = "5", words = "PEOPLE have a TALL (0 to 250; 170 at first),")
     static void tallOfPeople(Check c) {
         span(c, "tall", 0, 250, OUTSIDE, v -> new OpenEyes().tall(0, v));
-        OpenEyes x = people(8);
+        OpenEyes x = new OpenEyes();
+        for (int k = 0; k < 4; k++) c.due("of a new object, " + k, x.told(10 + k), 170);
+        x.people(8);
         for (int k = 0; k < 8; k++) c.due("at first, " + k, x.told(10 + k), 170);
     }
 
@@ -380,6 +382,7 @@ final class StairSentences extends Eyes {
 
     @Says(at = "Promise 28", words = "PLACED: how many (i = -1), the PLACE of PERSON i;")
     static void howManyAndPlaces(Check c) {
+        placedAre(c, "a new object", new OpenEyes(), 360, 0, 1, 2, 3);
         placedAre(c, "one on one", stairOf(1, 1, 1), 1, 0);
         placedAre(c, "eight on eight", stairOf(8, 2, 4), 40320, 0, 1, 2, 3, 4, 5, 6, 7);
         placedAre(c, "one on eight", stairOf(1, 2, 4), 8, 0);
@@ -408,6 +411,12 @@ final class StairSentences extends Eyes {
         placedAre(c, "after restore", x, 1, 1, 0);
         x.people(2);
         placedAre(c, "after people", x, 2, 0, 1);
+        OpenEyes y = stairOf(3, 2, 4);
+        placedAre(c, "three on eight", y, 336, 0, 1, 2);
+        y.stair(2, 2);
+        placedAre(c, "on a smaller stair", y, 24, 0, 1, 2);
+        y.people(2);
+        placedAre(c, "of fewer people", y, 12, 0, 1);
     }
 
     @Says(at = "Promise 28", words = "NONE.")
@@ -485,6 +494,10 @@ final class StairSentences extends Eyes {
         for (int k = 0; k < 8; k++) settings(x, k, 40 + k, k, 50 + k, k % 5, 200 + k);
         x.image(1);
         x.people(8);
+        for (int s = 0; s < 10; s++) {
+            write(x, "oooooooo");
+            x.shot();
+        }
         x.flash(-1);
         x.bad(-1, 20);
         x.stair(1, 1);
