@@ -1,6 +1,4 @@
-import java.lang.reflect.Modifier;
 import java.util.Arrays;
-import java.util.TreeSet;
 
 /** Each promise of the document: ordinary inputs, edges that it names, wrong inputs. */
 public final class PromiseTest extends Eyes {
@@ -19,7 +17,6 @@ public final class PromiseTest extends Eyes {
     }
 
     public static void main(String[] args) {
-        face();
         newObject();
         people();
         bride();
@@ -52,26 +49,6 @@ public final class PromiseTest extends Eyes {
         refusalsChangeNothing();
         refusalsInTheirOrder();
         check.end("PromiseTest");
-    }
-
-    private static void face() {
-        TreeSet<String> names = new TreeSet<>();
-        for (var m : OpenEyes.class.getDeclaredMethods()) {
-            if (!Modifier.isPrivate(m.getModifiers()) && !m.isSynthetic()) names.add(m.getName());
-        }
-        TreeSet<String> asked = new TreeSet<>(Arrays.asList("people", "bride", "say", "wipe",
-            "fault", "shot", "look", "single", "cover", "spoils", "hands", "heads", "left", "blink",
-            "flash", "open", "fire", "bad", "likely", "one", "many", "shoot", "stair", "tall",
-            "pair", "judge", "placed", "image", "restore", "told"));
-        check.holds("the methods of the face " + names, names.equals(asked));
-        due("UNKNOWN", OpenEyes.UNKNOWN, -1);
-        due("OUTSIDE", OpenEyes.OUTSIDE, -2);
-        due("STATE", OpenEyes.STATE, -3);
-        due("FULL", OpenEyes.FULL, -4);
-        due("NO", OpenEyes.NO, -5);
-        due("NONE", OpenEyes.NONE, -6);
-        due("GONE", OpenEyes.GONE, -1000000000000000000L);
-        check.holds("a final class", Modifier.isFinal(OpenEyes.class.getModifiers()));
     }
 
     // Promise 1
